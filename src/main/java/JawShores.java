@@ -923,16 +923,6 @@ public final class JawShores {
 
     /** What would come, tried on a shore that nobody lives on. */
     private static final class Seer {
-        // the smaller sets first, of one size the least: so the first that does is the answer
-        private static final int[] SETS_BY_SIZE = {
-            0,
-            1, 2, 4, 8, 16, 32,
-            3, 5, 6, 9, 10, 12, 17, 18, 20, 24, 33, 34, 36, 40, 48,
-            7, 11, 13, 14, 19, 21, 22, 25, 26, 28, 35, 37, 38, 41, 42, 44, 49, 50, 52, 56,
-            15, 23, 27, 29, 30, 39, 43, 45, 46, 51, 53, 54, 57, 58, 60,
-            31, 47, 55, 59, 61, 62,
-            63,
-        };
         private static final int MOST_TRIED_FISH = 30, AS_IT_IS = 64;
         private static final long FACTOR = 16807L, MODULUS = 2147483647L;
 
@@ -975,23 +965,23 @@ public final class JawShores {
         }
 
         int fewestTurned(Shore now, int person, int gate, int n) {
-            for (int i = 0; i < SETS_BY_SIZE.length; i++) {
-                int set = SETS_BY_SIZE[i];
-                if (now.hasSet(set) && isOfIfTurned(now, person, gate, n, set)) {
-                    return set;
+            int fewest = NONE;
+            for (int set = 0; set < 1 << now.gates; set++) {
+                if (isFewer(set, fewest) && isOfIfTurned(now, person, gate, n, set)) {
+                    fewest = set;
                 }
             }
-            return NONE;
+            return fewest;
         }
 
         int fewestFallen(Shore now, int n) {
-            for (int i = 0; i < SETS_BY_SIZE.length; i++) {
-                int set = SETS_BY_SIZE[i];
-                if (now.hasSet(set) && (set & now.fallen) == 0 && areAllFedIfFallen(now, n, set)) {
-                    return set;
+            int fewest = NONE;
+            for (int set = 0; set < 1 << now.gates; set++) {
+                if (isFewer(set, fewest) && (set & now.fallen) == 0 && areAllFedIfFallen(now, n, set)) {
+                    fewest = set;
                 }
             }
-            return NONE;
+            return fewest;
         }
 
         void hearDinners(Row row, int from, int n) {
@@ -1084,6 +1074,11 @@ public final class JawShores {
                 trial.passDay();
             }
             return what == 0 ? trial.hungerOfAll() - now.hungerOfAll() : trial.fishOfAll();
+        }
+
+        /** Of sets of one size the first stays, which is the least as they come. */
+        private static boolean isFewer(int set, int fewest) {
+            return fewest == NONE || Integer.bitCount(set) < Integer.bitCount(fewest);
         }
 
         private boolean isOfIfTurned(Shore now, int person, int gate, int n, int set) {

@@ -231,6 +231,12 @@ public final class PromisesTest {
         dueFault("s100,1;", 1, 1);
         dueFault("s1,030;", 3, 1);
         dueFault("s00,1;", 1, 2);
+        dueFault("s10,1;", 1, 2);
+        dueFault("s9,0;", 3, 2);
+        dueFault("s9,31;", 3, 2);
+        dueFault("s9,30;j0,0;", 7, 2);
+        dueFault("s9,30;j9,2;", 9, 2);
+        dueFault("s9,30;j9,0;z0,0,0;", 11, 1);
         dueFault("s1;", 2, 1);
         dueFault("s1,1,", 4, 1);
         dueFault("s1,30;j10,0;", 7, 2);
@@ -554,6 +560,8 @@ public final class PromisesTest {
         due("falls(1, 1)", x.falls(1, 1), 4);
         due("falls(0, 0)", x.falls(0, 0), BAD);
         due("falls(31, 0)", x.falls(31, 0), BAD);
+        due("falls(30, 1) is some", x.falls(30, 1) > 0 ? 1 : 0, 1);
+        due("rounds(2, 3, 30, 0)", x.rounds(2, 3, 30, 0), NONE);
         due("falls(1, 2)", x.falls(1, 2), BAD);
         x.days(1);
         due("falls(4, 0) behind a hungry day", x.falls(4, 0), 0);
@@ -563,6 +571,10 @@ public final class PromisesTest {
         due("falls(3, 0)", y.falls(3, 0), 2);
         due("falls(4, 0)", y.falls(4, 0), 3);
         due("falls(4, 1)", y.falls(4, 1), 7);
+        JawShores z = told("s1,30;j1,1;j1,1;j1,1;j1,1;j1,1;j1,1;z0,1,0;");
+        due("falls(11, 1), all", z.falls(11, 1), 63);
+        due("falls(9, 0), not the first", z.falls(9, 0), 5);
+        due("falls(9, 1)", z.falls(9, 1), 62);
         y.fall(1);
         due("falls(4, 1) with a fallen one", y.falls(4, 1), 5);
         due("falls(4, 0) with a fallen one", y.falls(4, 0), 2);
@@ -708,6 +720,7 @@ public final class PromisesTest {
         JawShores y = told("s1,9;j1,1;j1,1;j1,1;z0,1,0;");
         dueFed(y, 0, 3, 3, 9, 100);
         dueFed(y, 0, 4, 3, 27, 1000);
+        dueFed(told("s1,30;j1,1;j1,1;j1,1;j1,1;j1,1;j1,1;z0,1,0;"), 0, 30, 9, 531441, 1000000);
         y.days(1);
         dueFed(y, 0, 1, 5, 1, 2);
         draws();
@@ -721,6 +734,8 @@ public final class PromisesTest {
         due("drawn(1, 1, 1)", x.drawn(1, 1, 1), 43);
         due("drawn(1, 3, 0), turned round", x.drawn(1, 3, 0), 1);
         due("drawn(1, 3, 1), turned round", x.drawn(1, 3, 1), 29);
+        due("drawn(0, 999999, 1)", x.drawn(0, 999999, 1), 34);
+        due("drawn(60, 1, 0) goes", x.drawn(60, 1, 0) >= 1 ? 1 : 0, 1);
         x.days(1);
         due("drawn(0, 1, 0), in them alone", x.drawn(0, 1, 0), 0);
         int[][] bad = {{-1, 1, 0}, {61, 1, 0}, {0, 0, 0}, {0, 1000000, 0}, {0, 1, 2}, {0, 1, -1}};
@@ -773,6 +788,7 @@ public final class PromisesTest {
         due("kind(2)", x.kind(2), 3);
         due("days(1)", x.days(1), 1);
         due("restore(0)", x.restore(0), 1);
+        due("undo() behind it", x.undo(), STATE);
         due("count(1)", x.count(1), 2);
         due("days(1)", x.days(1), 0);
         due("person(0, 4), by its law", x.person(0, 4), 1);
