@@ -143,24 +143,19 @@ final class Edges {
 
     /** Refused, or found, on a shore where much has been done: nothing but status() tells that the call was made. */
     void refused(String... rows) {
-        for (String row : rows) {
-            Used made = lived();
-            long got = dueRow(made, row);
-            boolean isFinding = got <= number("NULL") && got >= number("STORE");
-            due(made, "status() " + (isFinding ? -1000010 - got : 3));
-            same(row, made, lived());
-        }
+        for (String row : rows) dueRefusal(row, lived(), lived());
     }
 
     /** The same where no shore was ever told. */
     void refusedBare(String... rows) {
-        for (String row : rows) {
-            Used made = bare();
-            long got = dueRow(made, row);
-            boolean isFinding = got <= number("NULL") && got >= number("STORE");
-            due(made, "status() " + (isFinding ? -1000010 - got : 2));
-            same(row, made, bare());
-        }
+        for (String row : rows) dueRefusal(row, bare(), bare());
+    }
+
+    private void dueRefusal(String row, Used made, Used other) {
+        long got = dueRow(made, row);
+        boolean isFinding = got <= number("NULL") && got >= number("STORE");
+        due(made, "status() " + (isFinding ? -1000010 - got : answer(other, "status()")));
+        same(row, made, other);
     }
 
     /** Calls, without answers, that are answered alike twice and change nothing; status() only where a row is read. */
