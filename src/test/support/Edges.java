@@ -16,7 +16,7 @@ final class Edges {
         Map.entry("STATE", -1000002L), Map.entry("FULL", -1000003L), Map.entry("NULL", -1000011L), Map.entry("PLACE", -1000012L),
         Map.entry("KIND", -1000013L), Map.entry("SIZE", -1000014L), Map.entry("STORE", -1000015L),
         Map.entry("MIN", (long) Integer.MIN_VALUE), Map.entry("MAX", (long) Integer.MAX_VALUE));
-    private static final Map<String, Method> FACE = new HashMap<>();
+    static final Map<String, Method> FACE = new HashMap<>();
 
     static {
         for (Method m : JawShores.class.getDeclaredMethods()) {
@@ -49,6 +49,11 @@ final class Edges {
         for (int i = at; i < at + words.length(); i++) marks[i] = true;
     }
 
+    /** Names what the next rows test, where it is no sentence of the document. */
+    void about(String what) {
+        sentence = what;
+    }
+
     /** Every word of these sections was named by says. */
     void covers(String... sections) {
         for (String section : sections) {
@@ -62,7 +67,7 @@ final class Edges {
     }
 
     void end() {
-        System.out.println(wrong == 0 ? "all edges hold" : wrong + " edges do not hold");
+        System.out.println(wrong == 0 ? "all is as due" : wrong + " are not as due");
         if (wrong != 0) System.exit(1);
     }
 
@@ -137,7 +142,7 @@ final class Edges {
         }
     }
 
-    private static long number(String told) {
+    static long number(String told) {
         return NAMES.containsKey(told) ? NAMES.get(told) : Long.parseLong(told);
     }
 
